@@ -475,6 +475,12 @@ public final class PromisesTest {
         fails("a wins", NONE, () -> game("e1 a1", "1 2", "-1 2").best());
         fails("block 0 of a", NONE, () -> game("a1 e1", "1 2").best());
         fails("no block", NONE, () -> game("").best());
+        Quantifold twelve = game("e12", "-1 -2", "-12 11");
+        for (int v = 1; v <= 12; v++) {
+            twelve.weight(v, v);
+            twelve.weight(-v, 1);
+        }
+        due("twelve", twelve.best(), 78);
         Quantifold loss = game("e1", "-1");
         loss.weight(1, 9);
         due("a wish against winning", loss.best(), 0);
@@ -508,6 +514,9 @@ public final class PromisesTest {
         due("both taken reduced", reduced.resolve(0, 1, 1), 4);
         due("to nothing", reduced.size(4, false), 0);
         fails("ahead of reducing", UNSUPPORTED, () -> reduced.resolve(2, 3, 3));
+        Quantifold first = game("e1 a1 e1", "1 2", "-1 -2 3", "1 2 3", "-1 -2");
+        due("the first one taken reduced", text(first, first.resolve(0, 1, 1), false), "-2 3");
+        due("the second one taken reduced", text(first, first.resolve(2, 3, 1), false), "2 3");
         Quantifold full = game("e2", "1", "-1");
         for (int i = 2; i < 40; i++) {
             due("made", full.resolve(0, 1, 1), i);
@@ -603,6 +612,13 @@ public final class PromisesTest {
         due("all are gone", q.terms(), 0);
         fails("gone", INDEX, () -> q.termSize(0, false));
         due("numbers begin anew", term(q, "1 3"), 0);
+        Quantifold taken = game("a1 e1 a1");
+        term(taken, "1 2");
+        term(taken, "-1 -2 3");
+        term(taken, "1 2 3");
+        term(taken, "-1 -2");
+        due("the first one taken reduced", termText(taken, taken.resolveTerms(0, 1, 1), false), "-2 3");
+        due("the second one taken reduced", termText(taken, taken.resolveTerms(2, 3, 1), false), "2 3");
         Quantifold full = game("a1 e2 a1", "1 2", "-1 3");
         term(full, "1 3");
         term(full, "-1 2");
@@ -665,6 +681,8 @@ public final class PromisesTest {
         fails("less than 0", INDEX, () -> q.depends(-4, 2));
         fails("not of e", UNSUPPORTED, () -> q.depends(2, 3));
         fails("not of a", UNSUPPORTED, () -> q.depends(4, 5));
+        fails("neither", UNSUPPORTED, () -> game("e1 a1 e1 a1", "1 2 3 4").depends(4, 2));
+        fails("the other way round", UNSUPPORTED, () -> q.depends(2, 4));
         fails("not behind", UNSUPPORTED, () -> q.depends(1, 2));
         q.drop(1);
         due("dropped", q.depends(6, 2), false);
