@@ -1,104 +1,5 @@
-import java.util.NoSuchElementException;
-
 /** Each promise by itself: ordinary inputs, the edges that the document names, wrong inputs. */
-public final class PromisesTest {
-    private static int wrong = 0;
-    private static int checked = 0;
-    private static String promise = "";
-
-    private interface Call {
-        Object run();
-    }
-
-    private static void due(String what, Object got, Object want) {
-        checked++;
-        if (!want.equals(got)) {
-            wrong++;
-            System.out.println(promise + ": " + what + " answered " + got + ", due is " + want);
-        }
-    }
-
-    private static void fails(String what, Class<?> want, Call call) {
-        Object got;
-        try {
-            got = call.run();
-        } catch (RuntimeException e) {
-            got = e.getClass();
-        }
-        due(what, got, want);
-    }
-
-    private static final Class<?> ARGUMENT = IllegalArgumentException.class;
-    private static final Class<?> STATE = IllegalStateException.class;
-    private static final Class<?> INDEX = IndexOutOfBoundsException.class;
-    private static final Class<?> UNSUPPORTED = UnsupportedOperationException.class;
-    private static final Class<?> NONE = NoSuchElementException.class;
-
-    /** A prefix as "e1 a2" says how many variables each block has; each clause is a text of literals. */
-    private static Quantifold game(String blocks, String... clauses) {
-        Quantifold q = new Quantifold();
-        for (String block : blocks.split(" ")) {
-            if (block.isEmpty()) {
-                continue;
-            }
-            int number = q.block(block.charAt(0));
-            for (int i = Integer.parseInt(block.substring(1)); i > 0; i--) {
-                q.variable(number);
-            }
-        }
-        for (String clause : clauses) {
-            type(q, clause);
-            q.clause();
-        }
-        return q;
-    }
-
-    private static void type(Quantifold q, String literals) {
-        for (String literal : literals.trim().split(" +")) {
-            if (!literal.isEmpty()) {
-                q.type(Integer.parseInt(literal));
-            }
-        }
-    }
-
-    private static int term(Quantifold q, String literals) {
-        type(q, literals);
-        return q.term();
-    }
-
-    private static String text(Quantifold q, int clause, boolean isReduced) {
-        StringBuilder text = new StringBuilder();
-        for (int i = 0; i < q.size(clause, isReduced); i++) {
-            text.append(i == 0 ? "" : " ").append(q.literal(clause, isReduced, i));
-        }
-        return text.toString();
-    }
-
-    private static String termText(Quantifold q, int term, boolean isReduced) {
-        StringBuilder text = new StringBuilder();
-        for (int i = 0; i < q.termSize(term, isReduced); i++) {
-            text.append(i == 0 ? "" : " ").append(q.termLiteral(term, isReduced, i));
-        }
-        return text.toString();
-    }
-
-    private static String core(Quantifold q) {
-        StringBuilder text = new StringBuilder();
-        for (int i = 0; i < q.core(); i++) {
-            text.append(i == 0 ? "" : " ").append(q.coreAt(i));
-        }
-        return text.toString();
-    }
-
-    private static String values(Quantifold q, int variables) {
-        StringBuilder text = new StringBuilder();
-        for (int v = 1; v <= variables; v++) {
-            int value = q.value(v);
-            text.append(value < 0 ? '-' : (char) ('0' + value));
-        }
-        return text.toString();
-    }
-
+public final class PromisesTest extends Checks {
     public static void main(String[] args) {
         newObject();
         prefix();
@@ -124,14 +25,11 @@ public final class PromisesTest {
         strategy();
         sums();
         soundness();
-        System.out.println(checked + " checks, " + wrong + " wrong");
-        if (wrong != 0) {
-            System.exit(1);
-        }
+        end();
     }
 
     private static void newObject() {
-        promise = "1 a new object";
+        section("1 a new object");
         Quantifold q = new Quantifold();
         due("clauses", q.clauses(), 0);
         due("terms", q.terms(), 0);
@@ -158,7 +56,7 @@ public final class PromisesTest {
     }
 
     private static void prefix() {
-        promise = "2 block";
+        section("2 block");
         Quantifold q = new Quantifold();
         fails("kind x", ARGUMENT, () -> q.block('x'));
         fails("kind E", ARGUMENT, () -> q.block('E'));
@@ -168,7 +66,7 @@ public final class PromisesTest {
         }
         fails("a seventh", STATE, () -> q.block('a'));
         fails("a seventh of no kind", ARGUMENT, () -> q.block('b'));
-        promise = "3 variable";
+        section("3 variable");
         fails("block -1", INDEX, () -> q.variable(-1));
         fails("block 6", INDEX, () -> q.variable(6));
         fails("a huge block", INDEX, () -> q.variable(Integer.MAX_VALUE));
@@ -177,7 +75,7 @@ public final class PromisesTest {
         }
         fails("a thirteenth", STATE, () -> q.variable(0));
         fails("a thirteenth of no block", INDEX, () -> q.variable(6));
-        promise = "4 kind";
+        section("4 kind");
         due("of 1", q.kind(1), 'e');
         due("of 5", q.kind(5), 'a');
         due("of 8", q.kind(8), 'a');
@@ -188,7 +86,7 @@ public final class PromisesTest {
     }
 
     private static void typing() {
-        promise = "5 type";
+        section("5 type");
         Quantifold q = game("e5 a4");
         due("3", q.type(3), 1);
         due("-1", q.type(-1), 2);
@@ -203,7 +101,7 @@ public final class PromisesTest {
         fails("a ninth", STATE, () -> q.type(9));
         fails("a ninth that is typed", UNSUPPORTED, () -> q.type(-8));
         fails("a ninth that is none", ARGUMENT, () -> q.type(11));
-        promise = "6 wipe";
+        section("6 wipe");
         due("8", q.wipe(), 8);
         due("0", q.wipe(), 0);
         due("anew", q.type(-3), 1);
@@ -211,7 +109,7 @@ public final class PromisesTest {
     }
 
     private static void clauses() {
-        promise = "7 clause";
+        section("7 clause");
         Quantifold q = game("e2");
         type(q, "2 -1");
         due("0", q.clause(), 0);
@@ -226,7 +124,7 @@ public final class PromisesTest {
         due("what is typed stays", q.wipe(), 1);
         due("drop", q.drop(39), 1);
         fails("numbers are not used again", STATE, q::clause);
-        promise = "9 clauses";
+        section("9 clauses");
         due("39", q.clauses(), 39);
         Quantifold made = game("e2", "1 2", "-1 2");
         made.resolve(0, 1, 1);
@@ -236,7 +134,7 @@ public final class PromisesTest {
     }
 
     private static void dropping() {
-        promise = "8 drop";
+        section("8 drop");
         Quantifold q = game("e4", "1 2", "-1 2", "-2 3", "4");
         due("made", q.resolve(0, 1, 1), 4);
         due("made of made", q.resolve(4, 2, 2), 5);
@@ -260,7 +158,7 @@ public final class PromisesTest {
     }
 
     private static void looksAtClauses() {
-        promise = "10 size";
+        section("10 size");
         Quantifold q = game("e1 a2 e1 a1", "5 -3 1", "4 -2 5", "2 -5 3", "");
         due("0", q.size(0, false), 3);
         due("0 reduced", q.size(0, true), 1);
@@ -270,7 +168,7 @@ public final class PromisesTest {
         fails("-1", INDEX, () -> q.size(-1, true));
         fails("4", INDEX, () -> q.size(4, false));
         fails("40", INDEX, () -> q.size(40, false));
-        promise = "11 literal";
+        section("11 literal");
         due("0", text(q, 0, false), "1 -3 5");
         due("0 reduced", text(q, 0, true), "1");
         due("1", text(q, 1, false), "-2 4 5");
@@ -283,7 +181,7 @@ public final class PromisesTest {
         fails("no clause", INDEX, () -> q.literal(4, false, 9));
         q.drop(0);
         fails("a dropped clause", INDEX, () -> q.literal(0, false, 0));
-        promise = "12 holds";
+        section("12 holds");
         Quantifold h = game("e2 a1", "1 -2", "3");
         due("101", h.holds(0b101), true);
         due("100", h.holds(0b100), true);
@@ -296,7 +194,7 @@ public final class PromisesTest {
     }
 
     private static void assuming() {
-        promise = "13 assume";
+        section("13 assume");
         Quantifold q = game("e3 a1 e1");
         fails("0", ARGUMENT, () -> q.assume(0));
         fails("6", ARGUMENT, () -> q.assume(6));
@@ -310,14 +208,14 @@ public final class PromisesTest {
         due("3", q.assume(3), 3);
         fails("a block 0 of a", UNSUPPORTED, () -> game("a2 e1").assume(1));
         fails("behind a block 0 of a", UNSUPPORTED, () -> game("a2 e1").assume(3));
-        promise = "14 release";
+        section("14 release");
         due("3", q.release(), 3);
         due("0", q.release(), 0);
         due("anew", q.assume(2), 1);
     }
 
     private static void winner() {
-        promise = "15 winner";
+        section("15 winner");
         due("e", game("e1 a1 e1", "1 2 3", "-1 2 -3", "1 -2 -3").winner(), 'e');
         due("a copies not", game("a1 e1", "1 2", "-1 -2").winner(), 'e');
         due("a by order", game("e1 a1", "1 2", "-1 -2").winner(), 'a');
@@ -336,7 +234,7 @@ public final class PromisesTest {
         due("told", q.winner(), 'a');
         q.drop(1);
         due("dropped", q.winner(), 'e');
-        promise = "16 positions";
+        section("16 positions");
         due("of nothing", game("e3").positions(), 1);
         due("first true", game("e1", "1").positions(), 2);
         due("both", game("e1", "-1").positions(), 3);
@@ -366,7 +264,7 @@ public final class PromisesTest {
     }
 
     private static void budgets() {
-        promise = "17 solve";
+        section("17 solve");
         Quantifold q = game("e1 a1 e1", "1 2 3", "-1 2 -3", "1 -2 -3");
         due("5", q.solve(5), '?');
         due("6", q.solve(6), 'e');
@@ -383,7 +281,7 @@ public final class PromisesTest {
     }
 
     private static void cores() {
-        promise = "18 core";
+        section("18 core");
         Quantifold q = game("e4 a1", "1 2", "3 4", "3 1");
         fails("e wins", UNSUPPORTED, q::core);
         fails("e wins, at", UNSUPPORTED, () -> q.coreAt(0));
@@ -393,7 +291,7 @@ public final class PromisesTest {
         q.assume(-4);
         due("of two ways the one whose literals were assumed behind", q.core(), 2);
         due("its literals", core(q), "-2 -1");
-        promise = "19 coreAt";
+        section("19 coreAt");
         q.release();
         q.assume(-4);
         q.assume(-2);
@@ -411,7 +309,7 @@ public final class PromisesTest {
     }
 
     private static void propagation() {
-        promise = "20 conflicts";
+        section("20 conflicts");
         due("none", game("e2", "1 2", "-1 -2").conflicts(), false);
         due("nothing", game("e1", "").conflicts(), true);
         due("reduced", game("e1 a1", "2").conflicts(), true);
@@ -423,7 +321,7 @@ public final class PromisesTest {
         due("by what is assumed", q.conflicts(), true);
         q.release();
         due("released", q.conflicts(), false);
-        promise = "21 value";
+        section("21 value");
         due("pure", values(game("e2 a1 e1", "1 -2 3 4", "1 3 -4"), 4), "1---");
         due("units ahead of pure ones", values(game("e3", "1 2", "-3", "3 -1 2"), 3), "-10");
         due("pure of a is false", values(game("a1 e2", "1 2 3", "1 -2 -3"), 3), "0--");
@@ -443,7 +341,7 @@ public final class PromisesTest {
     }
 
     private static void wishes() {
-        promise = "22 weight";
+        section("22 weight");
         Quantifold q = game("e2 a1 e1", "1 2", "-1 -2 3 4");
         due("1", q.weight(1, 5), 0);
         due("1 again", q.weight(1, 99), 5);
@@ -459,7 +357,7 @@ public final class PromisesTest {
         fails("of a", UNSUPPORTED, () -> q.weight(3, 1));
         fails("of another block", UNSUPPORTED, () -> q.weight(-4, 1));
         fails("block 0 of a", UNSUPPORTED, () -> game("a1").weight(1, 0));
-        promise = "23 best";
+        section("23 best");
         q.weight(2, 30);
         due("both", q.best(), 50);
         q.weight(-2, 31);
@@ -487,7 +385,7 @@ public final class PromisesTest {
     }
 
     private static void resolution() {
-        promise = "25 resolve";
+        section("25 resolve");
         Quantifold q = game("e2 a1 e2", "1 4", "-4 2 3", "-1 2", "-2 5 3", "3 5", "-5 -3");
         due("0 1 by 4", q.resolve(0, 1, 4), 6);
         due("reduced", text(q, 6, false), "1 2");
@@ -528,7 +426,7 @@ public final class PromisesTest {
     }
 
     private static void longDistance() {
-        promise = "24 far";
+        section("24 far");
         Quantifold q = game("e1 a1 e2", "1 2 3", "-1 -2 4", "1 -2 -3", "-4", "3 4 -1", "-3 2 4");
         due("off at first", q.far(true), false);
         due("it was on", q.far(true), true);
@@ -568,7 +466,7 @@ public final class PromisesTest {
     }
 
     private static void terms() {
-        promise = "26 term";
+        section("26 term");
         Quantifold q = game("a1 e2 a1 e1", "1 2", "-1 3 5");
         type(q, "1 5 4");
         due("0", q.term(), 0);
@@ -577,16 +475,16 @@ public final class PromisesTest {
         fails("some clause has none", UNSUPPORTED, q::term);
         due("what is typed stays", q.wipe(), 2);
         due("1", term(q, "-1 2"), 1);
-        promise = "27 terms";
+        section("27 terms");
         due("2", q.terms(), 2);
-        promise = "28 termSize";
+        section("28 termSize");
         due("0", q.termSize(0, false), 3);
         due("0 reduced", q.termSize(0, true), 2);
         due("1 reduced", q.termSize(1, true), 1);
         fails("2", INDEX, () -> q.termSize(2, false));
         fails("-1", INDEX, () -> q.termSize(-1, false));
         fails("20", INDEX, () -> q.termSize(20, true));
-        promise = "29 termLiteral";
+        section("29 termLiteral");
         due("0", termText(q, 0, false), "1 4 5");
         due("0 reduced", termText(q, 0, true), "1 4");
         due("1", termText(q, 1, false), "-1 2");
@@ -594,7 +492,7 @@ public final class PromisesTest {
         fails("3", NONE, () -> q.termLiteral(0, false, 3));
         fails("2 reduced", NONE, () -> q.termLiteral(0, true, 2));
         fails("no term", INDEX, () -> q.termLiteral(2, true, 7));
-        promise = "30 resolveTerms";
+        section("30 resolveTerms");
         due("made", q.resolveTerms(0, 1, 1), 2);
         due("what comes", termText(q, 2, false), "4");
         fails("the wrong way round", UNSUPPORTED, () -> q.resolveTerms(1, 0, 1));
@@ -642,7 +540,7 @@ public final class PromisesTest {
     }
 
     private static void proofs() {
-        promise = "31 proved";
+        section("31 proved");
         due("neither", game("a1 e1", "1 2", "-1 -2").proved(), '-');
         due("a told", game("e1 a1", "1", "2").proved(), 'a');
         due("a by nothing", game("e1", "").proved(), 'a');
@@ -668,7 +566,7 @@ public final class PromisesTest {
     }
 
     private static void paths() {
-        promise = "32 depends";
+        section("32 depends");
         Quantifold q = game("e1 a2 e4", "1 2 4", "-4 5", "-5 -6", "-3 7", "1 7 -3");
         due("one clause", q.depends(4, 2), true);
         due("two", q.depends(5, 2), true);
@@ -697,7 +595,7 @@ public final class PromisesTest {
     }
 
     private static void blocked() {
-        promise = "33 isBlocked";
+        section("33 isBlocked");
         Quantifold q = game("e1 a1 e2 a1 e1", "1 2 3", "-3 -2 4", "-3 -1", "3 5 4", "-6 5", "6 -5");
         due("by 2 and 1", q.isBlocked(0, 3), true);
         due("3 is behind 1", q.isBlocked(0, 1), false);
@@ -727,7 +625,7 @@ public final class PromisesTest {
     }
 
     private static void held() {
-        promise = "34 held";
+        section("34 held");
         Quantifold q = game("e2 a1", "1 2 3", "1 2", "2 1", "-1 2", "2", "1 3");
         due("by the lowest", q.held(0), 1);
         due("alike, lower", q.held(1), 4);
@@ -751,7 +649,7 @@ public final class PromisesTest {
     }
 
     private static void expansion() {
-        promise = "35 expands";
+        section("35 expands");
         Quantifold q = game("e1 a2 e2", "1", "2 1", "-2 4", "1 -4", "4 5 3", "3", "-3 1");
         due("of 2", q.expands(2), 9);
         due("of 3", q.expands(3), 9);
@@ -774,7 +672,7 @@ public final class PromisesTest {
     }
 
     private static void play() {
-        promise = "36 begin";
+        section("36 begin");
         Quantifold q = game("e1 a1 e1", "1 2 3", "-1 2 -3", "1 -2 -3");
         fails("x", ARGUMENT, () -> q.begin('x'));
         fails("-", ARGUMENT, () -> q.begin('-'));
@@ -782,20 +680,20 @@ public final class PromisesTest {
         due("e", q.begin('e'), 1);
         due("a", q.begin('a'), 2);
         fails("side x leaves it", ARGUMENT, () -> q.begin('x'));
-        promise = "38 played";
+        section("38 played");
         due("the first move", q.played(1), 1);
         due("to be told", q.played(2), -1);
         due("behind it", q.played(3), -1);
         fails("0", INDEX, () -> q.played(0));
         fails("4", INDEX, () -> q.played(4));
-        promise = "39 won";
+        section("39 won");
         fails("not over", UNSUPPORTED, q::won);
-        promise = "37 move";
+        section("37 move");
         due("false", q.move(false), 0);
         due("played 2", q.played(2), 0);
         due("played 3", q.played(3), 0);
         fails("all have values", UNSUPPORTED, () -> q.move(true));
-        promise = "39 won";
+        section("39 won");
         due("e", q.won(), 'e');
         due("held after that", q.played(1), 1);
         q.far(true);
@@ -805,7 +703,7 @@ public final class PromisesTest {
         ends("variable", () -> q.variable(0), q);
         ends("clause", q::clause, q);
         ends("drop", () -> q.drop(4), q);
-        promise = "37 move";
+        section("37 move");
         Quantifold both = game("a1 e2 a1", "2 1", "-3 4");
         due("begin", both.begin('a'), 1);
         due("1", both.move(true), 4);
@@ -823,7 +721,7 @@ public final class PromisesTest {
     }
 
     private static void ends(String what, Call change, Quantifold q) {
-        promise = "37 move";
+        section("37 move");
         for (int turn = q.begin('e'), i = 0; turn != 0 && i < 12; i++) {
             turn = q.move(true);
         }
@@ -836,7 +734,7 @@ public final class PromisesTest {
     }
 
     private static void strategy() {
-        promise = "36 begin";
+        section("36 begin");
         Quantifold lost = game("e1 a1", "2");
         due("a side that loses takes false", lost.begin('a'), 2);
         due("false", lost.played(1), 0);
@@ -852,7 +750,7 @@ public final class PromisesTest {
     }
 
     private static void sums() {
-        promise = "40 checksum";
+        section("40 checksum");
         Quantifold q = game("e1 a1 e1", "1 2 3", "-1 2", "-3", "");
         long sum = 7;
         for (int part : new int[] {3, 1, 1, 0, 0}) {
@@ -869,14 +767,14 @@ public final class PromisesTest {
             sum = 31 * sum + part;
         }
         due("all", q.checksum(), sum);
-        promise = "41 trueShare";
+        section("41 trueShare");
         due("3 of 4", game("e1 a1", "1 2").trueShare(), 0.75f);
         due("others", game("e2 a1 e1", "1").trueShare(), 0.5f);
         due("none", game("e1", "").trueShare(), 0.0f);
         due("no variables", game("", "").trueShare(), 0.0f);
         due("1 of 4096", game("e12", "1", "2", "3", "4", "5", "6", "7", "8", "9", "10", "11", "12").trueShare(),
                 1.0f / 4096.0f);
-        promise = "42 meanSize";
+        section("42 meanSize");
         Quantifold m = game("e2 a1", "1 2 3", "1", "2 3");
         due("2", m.meanSize(), 2.0);
         m.drop(1);
@@ -889,7 +787,7 @@ public final class PromisesTest {
     }
 
     private static void soundness() {
-        promise = "43 isSound";
+        section("43 isSound");
         Quantifold q = game("e1 a1 e1", "1 2 3", "-1 2 -3", "1 -2 -3", "1 2 3", "1");
         due("held ones", q.isSound(), true);
         q.begin('a');
