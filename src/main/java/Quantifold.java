@@ -633,11 +633,11 @@ public final class Quantifold {
         }
 
         int firstMembers() {
-            return members[0];
+            return members.length > 0 ? members[0] : 0;
         }
 
         boolean isOfFirstSome(int bit) {
-            return isFirstSome() && (members[0] & Literals.variablesOf(bit)) != 0;
+            return isFirstSome() && (firstMembers() & Literals.variablesOf(bit)) != 0;
         }
 
         /** The variables behind the one that has this bit. */

@@ -11,6 +11,8 @@ import java.util.HashSet;
 import java.util.List;
 import java.util.Set;
 import java.util.TreeSet;
+import java.util.regex.Matcher;
+import java.util.regex.Pattern;
 
 /** The public face as the document's code block gives it, and those rules of LANGUAGE.md that a look can tell. */
 public final class FaceTest {
@@ -157,6 +159,7 @@ public final class FaceTest {
         }) {
             due("'" + not + "' in the code", code.contains(not), false);
         }
+        indexes(code);
         int start = -1;
         String[] lines = all.split("\n");
         for (int i = 0; i < lines.length; i++) {
@@ -166,6 +169,22 @@ public final class FaceTest {
             if (lines[i].matches("    (    )?\\}") && start >= 0) {
                 due("lines of the method from line " + (start + 1), i - start < 60, true);
                 start = -1;
+            }
+        }
+    }
+
+    /** An index that is a number is looked at in its own line, one that is a name somewhere in its method. */
+    private static void indexes(String code) {
+        Pattern index = Pattern.compile("(\\w+)\\[(\\w+)\\]");
+        for (String method : code.split("\n\\s*\n")) {
+            for (String line : method.split("\n")) {
+                for (Matcher found = index.matcher(line); found.find();) {
+                    String row = found.group(1) + ".length";
+                    boolean isNumber = Character.isDigit(found.group(2).charAt(0));
+                    boolean isNew = row.equals("int.length") || row.equals("long.length");
+                    String place = isNumber ? line : method;
+                    due(line.trim() + " looks at its index", isNew || place.contains(row), true);
+                }
             }
         }
     }
